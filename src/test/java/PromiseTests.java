@@ -1,16 +1,9 @@
-import java.util.concurrent.Callable;
-
 /** For each promise: ordinary inputs, the edges that the document names, and wrong inputs, worked out by hand. */
-public final class PromiseTests {
-    private static final String OUT = "IndexOutOfBoundsException";
-    private static final String ARGUMENT = "IllegalArgumentException";
-    private static final String STATE = "IllegalStateException";
+public final class PromiseTests extends Checks {
     private static final int[] WRONG_STANDS = {-1, 5, Integer.MIN_VALUE, Integer.MAX_VALUE};
     private static final int[] WRONG_TURNS = {0, 51, -1, Integer.MIN_VALUE, Integer.MAX_VALUE};
 
-    private static int wrong = 0;
-
-    public static void main(String[] args) throws Exception {
+    public static void main(String[] args) {
         promise1NewObject();
         promise2AddGun();
         promise3SetTrap();
@@ -38,37 +31,7 @@ public final class PromiseTests {
         promise27MeanScore();
         promise28Digest();
         noSuchGun();
-        System.out.println(wrong == 0 ? "all answers are as due" : wrong + " answers are not as due");
-        if (wrong != 0) {
-            System.exit(1);
-        }
-    }
-
-    private static void due(String call, Object want, Callable<?> got) {
-        Object answer;
-        try {
-            answer = got.call();
-        } catch (Exception e) {
-            answer = e.getClass().getSimpleName();
-        }
-        if (!want.equals(answer)) {
-            wrong++;
-            System.out.println(call + " answered " + answer + ", due is " + want);
-        }
-    }
-
-    private static ClayTraps with(int... swingsAndSteadinesses) {
-        ClayTraps x = new ClayTraps();
-        for (int i = 0; i < swingsAndSteadinesses.length; i += 2) {
-            x.addGun(swingsAndSteadinesses[i], swingsAndSteadinesses[i + 1]);
-        }
-        return x;
-    }
-
-    private static void setAllTraps(ClayTraps x, int base, int spread) {
-        for (int stand = 0; stand < 5; stand++) {
-            x.setTrap(stand, base, spread);
-        }
+        finish();
     }
 
     private static void promise1NewObject() {
