@@ -265,7 +265,7 @@ public final class ClayTraps {
         }
     }
 
-    // floorMod, not %: an object used so long that its turns wrap around must not throw either.
+    // floorMod, not %: an index stays in its row in any state, even one that 512 calls can't bring about.
     private static int clayIn(int turn) {
         return Math.floorMod(turn, CLAYS);
     }
